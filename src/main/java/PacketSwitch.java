@@ -25,7 +25,7 @@ public final class PacketSwitch {
     private static final int LEFT = '<' << 8 | '<', RIGHT = '>' << 8 | '>';
     private static final int AND = '&' << 8 | '&', OR = '|' << 8 | '|';
 
-    // The kind of a word is FIRST_WORD and its place in WORDS.
+    // The kind of a word is FIRST_WORD and its place in WORDS, which is one line since + joins no texts here.
     private static final String WORDS = "header meta state extract goto select default accept reject action table key actions exact lpm ternary control if else drop add remove apply checksum valid in out size";
     private static final int WORD_COUNT = 28, FIRST_WORD = 128;
     private static final int HEADER = 128, META = 129, STATE = 130, EXTRACT = 131, GOTO = 132;
@@ -45,6 +45,7 @@ public final class PacketSwitch {
     private int tapeLength;
     private final Machine machine = new Machine();
     private Entry madeUp = new Entry();
+    // Null until the first load: an object that never loads takes little room.
     private Compiler compiler;
     private Program program;
     // A text is compiled into the spare program, so that a fault leaves the other one whole.
