@@ -265,6 +265,12 @@ public final class EntryTest {
         Expect.same("defaults done", 3, x.look(0, 1));
         Expect.same("a new program", PacketSwitch.NONE, Expect.load(x, EXACT));
         Expect.goes("has its own", x, 0, "01 0000 77", 0, "01 0000 ff");
+        x = Expect.loaded(LPM);
+        x.match(0, 0, 16);
+        Expect.same("fallback", 0, x.fallback(0, 0));
+        Expect.same("the prefix is 0 again", 0, x.insert(0, 0, 0));
+        Expect.goes("it is", x, 0, "01 ffff 77", 0, "01 ffff 00");
+        Expect.same("by its entry", 1, x.hits(0));
     }
 
     private static void choosing() {

@@ -60,6 +60,9 @@ public final class FaultTest {
         fault("meta m 48;state s{select m{@281474976710656:accept;}}control{}");
         fault("meta m 48;state s{select m{@99999999999999999999999999:accept;}}control{}");
         fault("meta m 48;state s{select m{@18446744073709551617:accept;}}control{}");
+        fault("meta m 48;state s{select m{@2814749767106550:accept;}}control{}");
+        fault("meta @\2 4;" + TAIL);
+        fault("meta a @\3;" + TAIL);
         fine("meta m 8;state s{goto accept;}control{m=1<<2>>3&m|4^5+6-7;if(m<1&&m<=2&&m>=3&&m==4&&m!=5){}}");
         fine("meta m 8;state s{goto accept;}control{if(!m>1||m<1){}}");
         badControl("m = 1 << @= 2;");

@@ -12,6 +12,7 @@ public final class LoadTest {
         outStays();
         emptiesTheTape();
         manyLoads();
+        nothingOfAnOlderProgram();
         Expect.finish();
     }
 
@@ -87,6 +88,27 @@ public final class LoadTest {
         Expect.same("the tape is empty again", PacketSwitch.REFUSED, x.end(1));
         Expect.same("a load of nothing", 0, x.load());
         Expect.same("the program stays", 7, x.packet(0));
+    }
+
+    private static void nothingOfAnOlderProgram() {
+        String rich = "header h { a 8; b 8; } meta m 8; meta n 8; state s { extract h; select h.a { 1: t; 2: u; default: t; } }"
+            + " state t { extract h; goto accept; } state u { select h.b { 0: s; default: accept; } }"
+            + " action f(p 8, q 8) { h.a = p; } table t { key h.a exact, h.b lpm; actions f; default f(1, 2); } control { apply t; }";
+        String poor = "header h { a 8; } state s { extract h; select h.a { 1: accept; 2: reject; } } state u { goto reject; }"
+            + " action f() { h.a = 7; } table t { key h.a ternary; actions f; default f(); } control { apply t; }";
+        PacketSwitch x = new PacketSwitch();
+        for (int i = 0; i < 3; i++) {
+            Expect.same("rich", PacketSwitch.NONE, Expect.load(x, rich));
+            Expect.goes("rich, case 1", x, 0, "0100 0300", 0, "0100");
+            Expect.goes("rich, its default", x, 0, "0500 0300", 0, "0100");
+            Expect.same("rich again", PacketSwitch.NONE, Expect.load(x, rich));
+            Expect.same("poor", PacketSwitch.NONE, Expect.load(x, poor));
+            Expect.goes("poor, case 1", x, 0, "01 05", 0, "07 05");
+            Expect.goes("poor, case 2", x, 0, "02 05", PacketSwitch.DROPPED, "");
+            Expect.goes("poor, no default", x, 0, "03 05", PacketSwitch.DROPPED, "");
+            Expect.same("poor, tables", 1, x.count(4));
+            Expect.same("poor, an entry", 0, x.insert(0, 0, 0));
+        }
     }
 
     private static void manyLoads() {

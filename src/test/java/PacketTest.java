@@ -192,6 +192,9 @@ public final class PacketTest {
         PacketSwitch x = Expect.loaded(START + "control { m = m + 1; out = out + 1; h.b = m; }");
         Expect.goes("metas and out begin at 0", x, 0, "1fff", 1, "1001");
         Expect.goes("each time", x, 0, "1fff", 1, "1001");
+        x = Expect.loaded("meta a 1; meta b 2; meta c 3; meta d 4; meta e 5; meta f 48; state s { goto accept; }"
+            + " control { f = 0 - 1; a = f; b = f; c = f; d = f; e = f; out = a + b + c + d + e; if (f >> 47 != 1) { drop; } }");
+        Expect.goes("each meta with its width", x, 0, "01", 1 + 3 + 7 + 15 + 31, "01");
     }
 
     private static void addingAndRemoving() {
@@ -205,6 +208,13 @@ public final class PacketTest {
         PacketSwitch x = Expect.loaded(START + "control { if (e.valid) { out = 1; } add e; e.x = 9; }");
         Expect.goes("no header is valid at first", x, 0, "1234", 0, "1234 09 000000000000");
         Expect.goes("each time", x, 0, "1234", 0, "1234 09 000000000000");
+        x = Expect.loaded(HEADS + "state s { goto accept; } control { if (h.valid) { out = 1; } add h; h.b = h.b + 1; }");
+        Expect.goes("nor is the first one", x, 0, "1234", 0, "0001 1234");
+        Expect.goes("each time", x, 0, "1234", 0, "0001 1234");
+        x = Expect.loaded("header p { a 1; b 1; c 1; d 1; e 1; f 1; g 1; h 1; } header q { a 8; }"
+            + " state s { extract q; extract p; goto accept; } control { if (p.h == 1) { remove p; } }");
+        Expect.goes("headers with all their fields", x, 0, "77 fe 55", 0, "fe 77 55");
+        Expect.goes("the next header is not touched", x, 0, "77 ff 55", 0, "77 55");
     }
 
     private static void sumOf(String in, String due) {

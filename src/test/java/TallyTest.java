@@ -61,6 +61,10 @@ public final class TallyTest {
         for (int entry : wrong) {
             Expect.same("hits " + entry, PacketSwitch.NONE, x.hits(entry));
         }
+        PacketSwitch four = Expect.loaded(TEXT.replace("control",
+            "table q { key h.v exact; actions b; default b(); } control"));
+        Expect.same("four tables", 4, four.count(4));
+        Expect.same("no entry in them", PacketSwitch.NONE, four.hits(0));
         Expect.same("remove", 1, x.remove(1));
         Expect.same("hits of none", PacketSwitch.NONE, x.hits(1));
         Expect.packet(x, 0, "03");
