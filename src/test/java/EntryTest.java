@@ -221,7 +221,7 @@ public final class EntryTest {
 
     private static void numbers() {
         PacketSwitch x = Expect.loaded(EXACT);
-        for (int i = 0; i < 100; i++) {
+        for (int i = 0; i < 60; i++) {
             entry(x, i, 1, 0, 0, 0);
             entry(x, PacketSwitch.THERE, 1, 0, 0, 0);
             Expect.same("remove " + i, 0, x.remove(i));

@@ -2,17 +2,25 @@ import java.nio.charset.StandardCharsets;
 
 /** What the tests share: comparing answers, and feeding texts and packets. */
 final class Expect {
+    private static final int LONGEST = 300;
+
     private static int compared = 0;
     private static int wrong = 0;
+    private static String sentence = "";
 
     private Expect() {
+    }
+
+    /** The words of the document that the answers from here on belong to. */
+    static void sentence(String words) {
+        sentence = "\"" + words + "\": ";
     }
 
     static void same(String what, long due, long got) {
         compared++;
         if (due != got) {
             wrong++;
-            System.out.println(what + " answered " + got + ", due is " + due);
+            System.out.println(sentence + shortened(what) + " answered " + got + ", due is " + due);
         }
     }
 
@@ -20,8 +28,12 @@ final class Expect {
         compared++;
         if (!due.equals(got)) {
             wrong++;
-            System.out.println(what + " gave " + got + ", due is " + due);
+            System.out.println(sentence + shortened(what) + " gave " + got + ", due is " + due);
         }
+    }
+
+    private static String shortened(String what) {
+        return what.length() <= LONGEST ? what : what.substring(0, LONGEST) + " ..";
     }
 
     static void that(String what, boolean holds) {

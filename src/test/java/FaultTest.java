@@ -20,51 +20,40 @@ public final class FaultTest {
         Expect.finish();
     }
 
-    /** A text in which @ stands before the fault. */
-    private static void fault(String marked) {
-        int place = marked.indexOf('@');
-        String text = marked.replace("@", "");
-        Expect.same("load of " + marked, place, Expect.load(new PacketSwitch(), text));
-    }
-
-    private static void fine(String text) {
-        Expect.same("load of " + text, PacketSwitch.NONE, Expect.load(new PacketSwitch(), text));
-    }
-
     /** Statements of a control that is fine but for the mark. */
     private static void badControl(String statements) {
-        fault(START + "control { " + statements + " }");
+        Texts.fault(START + "control { " + statements + " }");
     }
 
     private static void goodControl(String statements) {
-        fine(START + "control { " + statements + " }");
+        Texts.fine(START + "control { " + statements + " }");
     }
 
     private static void tokens() {
-        fine("meta abcdefgh 4;" + TAIL);
-        fine("meta a_0z9___ 4;" + TAIL);
-        fault("meta @abcdefghi 4;" + TAIL);
-        fault("meta @_a 4;" + TAIL);
-        fault("meta @Ab 4;" + TAIL);
-        fault("meta a@B 4;" + TAIL);
-        fault("@checksums");
-        fault("meta@\t4;");
-        fault("meta a @\r 4;" + TAIL);
-        fault("meta a @\0 4;" + TAIL);
-        fault("meta a 4@\u00a0;" + TAIL);
-        fault("meta a 4@\u00fb;" + TAIL);
-        fault("meta a 4; @#");
-        fault("@?");
-        fine("meta\nm\n000000000000000000000000000000048\n;\n" + TAIL + "\n");
-        fine("meta m 48;meta n 1;state s{select m{281474976710655:accept;}}control{}");
-        fault("meta m 48;state s{select m{@281474976710656:accept;}}control{}");
-        fault("meta m 48;state s{select m{@99999999999999999999999999:accept;}}control{}");
-        fault("meta m 48;state s{select m{@18446744073709551617:accept;}}control{}");
-        fault("meta m 48;state s{select m{@2814749767106550:accept;}}control{}");
-        fault("meta @\2 4;" + TAIL);
-        fault("meta a @\3;" + TAIL);
-        fine("meta m 8;state s{goto accept;}control{m=1<<2>>3&m|4^5+6-7;if(m<1&&m<=2&&m>=3&&m==4&&m!=5){}}");
-        fine("meta m 8;state s{goto accept;}control{if(!m>1||m<1){}}");
+        Texts.fine("meta abcdefgh 4;" + TAIL);
+        Texts.fine("meta a_0z9___ 4;" + TAIL);
+        Texts.fault("meta @abcdefghi 4;" + TAIL);
+        Texts.fault("meta @_a 4;" + TAIL);
+        Texts.fault("meta @Ab 4;" + TAIL);
+        Texts.fault("meta a@B 4;" + TAIL);
+        Texts.fault("@checksums");
+        Texts.fault("meta@\t4;");
+        Texts.fault("meta a @\r 4;" + TAIL);
+        Texts.fault("meta a @\0 4;" + TAIL);
+        Texts.fault("meta a 4@\u00a0;" + TAIL);
+        Texts.fault("meta a 4@\u00fb;" + TAIL);
+        Texts.fault("meta a 4; @#");
+        Texts.fault("@?");
+        Texts.fine("meta\nm\n000000000000000000000000000000048\n;\n" + TAIL + "\n");
+        Texts.fine("meta m 48;meta n 1;state s{select m{281474976710655:accept;}}control{}");
+        Texts.fault("meta m 48;state s{select m{@281474976710656:accept;}}control{}");
+        Texts.fault("meta m 48;state s{select m{@99999999999999999999999999:accept;}}control{}");
+        Texts.fault("meta m 48;state s{select m{@18446744073709551617:accept;}}control{}");
+        Texts.fault("meta m 48;state s{select m{@2814749767106550:accept;}}control{}");
+        Texts.fault("meta @\2 4;" + TAIL);
+        Texts.fault("meta a @\3;" + TAIL);
+        Texts.fine("meta m 8;state s{goto accept;}control{m=1<<2>>3&m|4^5+6-7;if(m<1&&m<=2&&m>=3&&m==4&&m!=5){}}");
+        Texts.fine("meta m 8;state s{goto accept;}control{if(!m>1||m<1){}}");
         badControl("m = 1 << @= 2;");
         badControl("m = 1 <<@= 2;");
         badControl("m @== 1;");
@@ -76,198 +65,198 @@ public final class FaultTest {
     }
 
     private static void program() {
-        fault("@");
-        fault("   \n  @");
-        fault("@control {}");
-        fault("header a { x 8; } @control {}");
-        fault("@m 4;");
-        fault("@4");
-        fault("@{");
-        fault("state s { goto accept; } @");
-        fault("state s { goto accept; }   @");
-        fault("state s { goto accept; } control @");
-        fault("state s { goto accept; } control {@");
-        fault("state s { goto accept; } control {  @");
-        fault("state s { goto accept; } control @;");
-        fault("state s { goto accept; } control {} @;");
-        fault("state s { goto accept; } control {} @control {}");
-        fault("state s { goto accept; } control {} @$");
-        fault("state s { goto accept; } control {} @meta m 4;");
-        fine("state s { goto accept; } control {}  \n ");
-        fault("state s { goto accept; } @drop;");
-        fault("state s { goto accept; } @if");
+        Texts.fault("@");
+        Texts.fault("   \n  @");
+        Texts.fault("@control {}");
+        Texts.fault("header a { x 8; } @control {}");
+        Texts.fault("@m 4;");
+        Texts.fault("@4");
+        Texts.fault("@{");
+        Texts.fault("state s { goto accept; } @");
+        Texts.fault("state s { goto accept; }   @");
+        Texts.fault("state s { goto accept; } control @");
+        Texts.fault("state s { goto accept; } control {@");
+        Texts.fault("state s { goto accept; } control {  @");
+        Texts.fault("state s { goto accept; } control @;");
+        Texts.fault("state s { goto accept; } control {} @;");
+        Texts.fault("state s { goto accept; } control {} @control {}");
+        Texts.fault("state s { goto accept; } control {} @$");
+        Texts.fault("state s { goto accept; } control {} @meta m 4;");
+        Texts.fine("state s { goto accept; } control {}  \n ");
+        Texts.fault("state s { goto accept; } @drop;");
+        Texts.fault("state s { goto accept; } @if");
     }
 
     private static void headersAndMetas() {
-        fine("header a { x 8; }" + TAIL);
-        fault("header @");
-        fault("header @{");
-        fault("header @header");
-        fault("header @size { x 8; }");
-        fault("header a @x");
-        fault("header a {@");
-        fault("header a { @}" + TAIL);
-        fault("header a { x @; }");
-        fault("header a { x @y; }");
-        fault("header a { x 8 @}");
-        fault("header a { @8; }");
-        fault("header a { @out 8; }");
-        fault("header a { x @0; }");
-        fault("header a { x @49; }");
-        fault("header a { x 8; @x 8; }");
-        fault("header a { x 7; @}");
-        fault("header a { x 7; y 2; @}");
-        fine("header a { x 7; y 1; }" + TAIL);
-        fine("header a { x 48; y 48; z 48; w 16; }" + TAIL);
-        fault("header a { x 48; y 48; z 48; w 17; @}");
-        fault("header a { x 48; y 48; z 48; w 24; @}");
-        fault("header a { a 8; b 48; c 48; d 48; e 48; f 48; g 48; h 48; @}");
-        fine("header a { a 1; b 1; c 1; d 1; e 1; f 1; g 1; h 1; }" + TAIL);
-        fault("header a { a 1; b 1; c 1; d 1; e 1; f 1; g 1; h 1; @i 8; }");
-        fault("header a { a 1; b 1; c 1; d 1; e 1; f 1; g 1; h 2; @}");
-        fine("header a { a 8; } header b { a 8; b 8; }" + TAIL);
-        fine("meta m 1; meta n 48;" + TAIL);
-        fault("meta @4");
-        fault("meta m @;");
-        fault("meta m @0;");
-        fault("meta m @49;");
-        fault("meta m 4 @meta");
-        fault("meta m 4@");
+        Texts.fine("header a { x 8; }" + TAIL);
+        Texts.fault("header @");
+        Texts.fault("header @{");
+        Texts.fault("header @header");
+        Texts.fault("header @size { x 8; }");
+        Texts.fault("header a @x");
+        Texts.fault("header a {@");
+        Texts.fault("header a { @}" + TAIL);
+        Texts.fault("header a { x @; }");
+        Texts.fault("header a { x @y; }");
+        Texts.fault("header a { x 8 @}");
+        Texts.fault("header a { @8; }");
+        Texts.fault("header a { @out 8; }");
+        Texts.fault("header a { x @0; }");
+        Texts.fault("header a { x @49; }");
+        Texts.fault("header a { x 8; @x 8; }");
+        Texts.fault("header a { x 7; @}");
+        Texts.fault("header a { x 7; y 2; @}");
+        Texts.fine("header a { x 7; y 1; }" + TAIL);
+        Texts.fine("header a { x 48; y 48; z 48; w 16; }" + TAIL);
+        Texts.fault("header a { x 48; y 48; z 48; w 17; @}");
+        Texts.fault("header a { x 48; y 48; z 48; w 24; @}");
+        Texts.fault("header a { a 8; b 48; c 48; d 48; e 48; f 48; g 48; h 48; @}");
+        Texts.fine("header a { a 1; b 1; c 1; d 1; e 1; f 1; g 1; h 1; }" + TAIL);
+        Texts.fault("header a { a 1; b 1; c 1; d 1; e 1; f 1; g 1; h 1; @i 8; }");
+        Texts.fault("header a { a 1; b 1; c 1; d 1; e 1; f 1; g 1; h 2; @}");
+        Texts.fine("header a { a 8; } header b { a 8; b 8; }" + TAIL);
+        Texts.fine("meta m 1; meta n 48;" + TAIL);
+        Texts.fault("meta @4");
+        Texts.fault("meta m @;");
+        Texts.fault("meta m @0;");
+        Texts.fault("meta m @49;");
+        Texts.fault("meta m 4 @meta");
+        Texts.fault("meta m 4@");
     }
 
     private static void states() {
-        fault("state @{");
-        fault("state s @goto");
-        fault("state s { @}");
-        fault("state s { goto @; }");
-        fault("state s { goto @goto; }");
-        fault("state s { goto accept @}");
-        fault("state s { goto accept; @goto reject; }");
-        fault("state s { goto accept; @extract h; }");
-        fault("state s { @drop; }");
-        fault("state s { extract @h; goto accept; }");
-        fault("state s { extract @h; goto accept; } header h { a 8; } control {}");
-        fault("meta m 8; state s { extract @m; goto accept; }");
-        fault(HEADS + "state s { extract h @, e; goto accept; }");
-        fine(HEADS + "state s { extract h; extract h; extract e; goto accept; } control {}");
-        fault(HEADS + "state s { extract h; extract h; extract e; @extract h; goto accept; } control {}");
-        fine(HEADS + "state s { select h.a { } } control {}");
-        fine(HEADS + "state s { select m { default: s; } } control {}");
-        fault(HEADS + "state s { select @g.a { } } control {}");
-        fault(HEADS + "state s { select h.@w { } } control {}");
-        fault(HEADS + "state s { select h @{ } } control {}");
-        fault(HEADS + "state s { select m@.a { } } control {}");
-        fault(HEADS + "state s { select @in { } } control {}");
-        fault(HEADS + "state s { select m { 1 @accept; } } control {}");
-        fault(HEADS + "state s { select m { 1/@: accept; } } control {}");
-        fault(HEADS + "state s { select m { 1/2@/3: accept; } } control {}");
-        fault(HEADS + "state s { select m { 1: accept @} } control {}");
-        fault(HEADS + "state s { select m { 1: @1; } } control {}");
-        fault(HEADS + "state s { select m { default: accept; @1: accept; } } control {}");
-        fault(HEADS + "state s { select m { default: accept; @default: accept; } } control {}");
-        fault(HEADS + "state s { select m { default @accept; } } control {}");
-        fault(HEADS + "state s { select m { 1: accept; }@; } control {}");
-        fault("state s { goto accept; } state @s { goto accept; } control {}");
-        fine("state s { goto t; } state t { goto s; } control {}");
-        fault("state s { goto @t; } control {}");
-        fault("state s { goto @t; } state u { goto v; } control {}");
-        fault("state s { goto t; } control { @x = 1; }");
-        fault("state s { goto t; } control {} @x");
-        fault("state s { goto t; } control {@");
-        fault(HEADS + "state s { select m { 1: s; 2: @a; 3: b; default: c; } } control {}");
-        fault(HEADS + "state s { select m { 1: s; 2: t; default: @c; } } state t { goto d; } control {}");
-        fault(HEADS + "state s { goto @h; } control {}");
+        Texts.fault("state @{");
+        Texts.fault("state s @goto");
+        Texts.fault("state s { @}");
+        Texts.fault("state s { goto @; }");
+        Texts.fault("state s { goto @goto; }");
+        Texts.fault("state s { goto accept @}");
+        Texts.fault("state s { goto accept; @goto reject; }");
+        Texts.fault("state s { goto accept; @extract h; }");
+        Texts.fault("state s { @drop; }");
+        Texts.fault("state s { extract @h; goto accept; }");
+        Texts.fault("state s { extract @h; goto accept; } header h { a 8; } control {}");
+        Texts.fault("meta m 8; state s { extract @m; goto accept; }");
+        Texts.fault(HEADS + "state s { extract h @, e; goto accept; }");
+        Texts.fine(HEADS + "state s { extract h; extract h; extract e; goto accept; } control {}");
+        Texts.fault(HEADS + "state s { extract h; extract h; extract e; @extract h; goto accept; } control {}");
+        Texts.fine(HEADS + "state s { select h.a { } } control {}");
+        Texts.fine(HEADS + "state s { select m { default: s; } } control {}");
+        Texts.fault(HEADS + "state s { select @g.a { } } control {}");
+        Texts.fault(HEADS + "state s { select h.@w { } } control {}");
+        Texts.fault(HEADS + "state s { select h @{ } } control {}");
+        Texts.fault(HEADS + "state s { select m@.a { } } control {}");
+        Texts.fault(HEADS + "state s { select @in { } } control {}");
+        Texts.fault(HEADS + "state s { select m { 1 @accept; } } control {}");
+        Texts.fault(HEADS + "state s { select m { 1/@: accept; } } control {}");
+        Texts.fault(HEADS + "state s { select m { 1/2@/3: accept; } } control {}");
+        Texts.fault(HEADS + "state s { select m { 1: accept @} } control {}");
+        Texts.fault(HEADS + "state s { select m { 1: @1; } } control {}");
+        Texts.fault(HEADS + "state s { select m { default: accept; @1: accept; } } control {}");
+        Texts.fault(HEADS + "state s { select m { default: accept; @default: accept; } } control {}");
+        Texts.fault(HEADS + "state s { select m { default @accept; } } control {}");
+        Texts.fault(HEADS + "state s { select m { 1: accept; }@; } control {}");
+        Texts.fault("state s { goto accept; } state @s { goto accept; } control {}");
+        Texts.fine("state s { goto t; } state t { goto s; } control {}");
+        Texts.fault("state s { goto @t; } control {}");
+        Texts.fault("state s { goto @t; } state u { goto v; } control {}");
+        Texts.fault("state s { goto t; } control { @x = 1; }");
+        Texts.fault("state s { goto t; } control {} @x");
+        Texts.fault("state s { goto t; } control {@");
+        Texts.fault(HEADS + "state s { select m { 1: s; 2: @a; 3: b; default: c; } } control {}");
+        Texts.fault(HEADS + "state s { select m { 1: s; 2: t; default: @c; } } state t { goto d; } control {}");
+        Texts.fault(HEADS + "state s { goto @h; } control {}");
     }
 
     private static void actions() {
-        fine(START + "action f() {} control {}");
-        fine(START + "action f(a 1, b 48, c 9) {} control {}");
-        fault(START + "action @{} control {}");
-        fault(START + "action f @{} control {}");
-        fault(START + "action f(@, a 1) {} control {}");
-        fault(START + "action f(a @) {} control {}");
-        fault(START + "action f(a @0) {} control {}");
-        fault(START + "action f(a @49) {} control {}");
-        fault(START + "action f(a 1 @b 2) {} control {}");
-        fault(START + "action f(a 1, @) {} control {}");
-        fault(START + "action f(a 1, @a 1) {} control {}");
-        fault(START + "action f(a 1, b 1, c 1, @d 1) {} control {}");
-        fault(START + "action f(a 1, b 1, c 1, @) {} control {}");
-        fault(START + "action f(@1) {} control {}");
-        fault(START + "action f() @; control {}");
-        fault(START + "action f() { @apply t; } control {}");
-        fault(START + "action f() { @if (1 < 2) {} } control {}");
-        fault(START + "action f() { @{} } control {}");
-        fault(START + "action f(p 8) { @p = 1; } control {}");
-        fault(START + "action f(m 8) { @m = 1; } control {}");
-        fault(START + "action f(h 8) { @h.a = 1; } control {}");
-        fault(START + "action f(h 8) { add @h; } control {}");
-        fault(START + "action f(e 8) { checksum @e.w; } control {}");
-        fault(START + "action f(h 8) { m = h@.a; } control {}");
-        fine(START + "action f(h 8, f 8, m 8) { out = h + f + m; } control { h.a = m; }");
-        fine(START + "action f(a 8) { h.a = a; } action g(a 8) { h.a = a; } control {}");
-        fault(START + "action f(p 8) { m = p; } control { m = @p; }");
-        fault(START + "action f(p 8) { m = p; } action g(q 8) { m = @p; } control {}");
-        fault(START + "action f(p 8) { m = p; } table t { key @p exact; actions f; default f(1); } control {}");
+        Texts.fine(START + "action f() {} control {}");
+        Texts.fine(START + "action f(a 1, b 48, c 9) {} control {}");
+        Texts.fault(START + "action @{} control {}");
+        Texts.fault(START + "action f @{} control {}");
+        Texts.fault(START + "action f(@, a 1) {} control {}");
+        Texts.fault(START + "action f(a @) {} control {}");
+        Texts.fault(START + "action f(a @0) {} control {}");
+        Texts.fault(START + "action f(a @49) {} control {}");
+        Texts.fault(START + "action f(a 1 @b 2) {} control {}");
+        Texts.fault(START + "action f(a 1, @) {} control {}");
+        Texts.fault(START + "action f(a 1, @a 1) {} control {}");
+        Texts.fault(START + "action f(a 1, b 1, c 1, @d 1) {} control {}");
+        Texts.fault(START + "action f(a 1, b 1, c 1, @) {} control {}");
+        Texts.fault(START + "action f(@1) {} control {}");
+        Texts.fault(START + "action f() @; control {}");
+        Texts.fault(START + "action f() { @apply t; } control {}");
+        Texts.fault(START + "action f() { @if (1 < 2) {} } control {}");
+        Texts.fault(START + "action f() { @{} } control {}");
+        Texts.fault(START + "action f(p 8) { @p = 1; } control {}");
+        Texts.fault(START + "action f(m 8) { @m = 1; } control {}");
+        Texts.fault(START + "action f(h 8) { @h.a = 1; } control {}");
+        Texts.fault(START + "action f(h 8) { add @h; } control {}");
+        Texts.fault(START + "action f(e 8) { checksum @e.w; } control {}");
+        Texts.fault(START + "action f(h 8) { m = h@.a; } control {}");
+        Texts.fine(START + "action f(h 8, f 8, m 8) { out = h + f + m; } control { h.a = m; }");
+        Texts.fine(START + "action f(a 8) { h.a = a; } action g(a 8) { h.a = a; } control {}");
+        Texts.fault(START + "action f(p 8) { m = p; } control { m = @p; }");
+        Texts.fault(START + "action f(p 8) { m = p; } action g(q 8) { m = @p; } control {}");
+        Texts.fault(START + "action f(p 8) { m = p; } table t { key @p exact; actions f; default f(1); } control {}");
     }
 
     private static void tables() {
         String open = ACTS + "table t { ";
         String rest = " } control {}";
-        fine(open + "key m exact; actions f; default f(511, 281474976710655);" + rest);
-        fine(open + "key m exact, h.a lpm, e.y ternary; actions g, f; default g();" + rest);
-        fault(ACTS + "table @{");
-        fault(ACTS + "table t @key");
-        fault(open + "@actions f;" + rest);
-        fault(open + "key @; actions f;" + rest);
-        fault(open + "key @q exact; actions f;" + rest);
-        fault(open + "key h @exact; actions f;" + rest);
-        fault(open + "key m @; actions f;" + rest);
-        fault(open + "key m @size; actions f;" + rest);
-        fault(open + "key m lpm, h.a @lpm; actions f;" + rest);
-        fault(open + "key m lpm, h.a exact, h.b @lpm; actions f;" + rest);
-        fault(open + "key m exact, h.a exact, h.b exact, @h.c exact; actions f;" + rest);
-        fault(open + "key m exact, @; actions f;" + rest);
-        fault(open + "key m exact @actions f;" + rest);
-        fine(open + "key m exact, m exact, m exact; actions g; default g();" + rest);
-        fault(open + "key m exact; @default g();" + rest);
-        fault(open + "key m exact; actions @; default g();" + rest);
-        fault(open + "key m exact; actions @m; default g();" + rest);
-        fault(open + "key m exact; actions @x; default g();" + rest);
-        fault(open + "key m exact; actions @t; default g();" + rest);
-        fault(open + "key m exact; actions f, @f; default g();" + rest);
-        fault(open + "key m exact; actions f @g; default g();" + rest);
-        fault(open + "key m exact; actions f; @}" + " control {}");
-        fault(open + "key m exact; actions f; default @g();" + rest);
-        fault(open + "key m exact; actions f; default @m();" + rest);
-        fault(open + "key m exact; actions f; default f@;" + rest);
-        fault(open + "key m exact; actions f; default f(@);" + rest);
-        fault(open + "key m exact; actions f; default f(1@);" + rest);
-        fault(open + "key m exact; actions f; default f(@512, 1);" + rest);
-        fault(open + "key m exact; actions f; default f(1, @m);" + rest);
-        fault(open + "key m exact; actions f; default f(1, 2@, 3);" + rest);
-        fault(open + "key m exact; actions f; default f(1 @2);" + rest);
-        fault(open + "key m exact; actions g; default g(@1);" + rest);
-        fault(open + "key m exact; actions g; default g() @}" + " control {}");
-        fault(open + "key m exact; actions g; default g(); @key m exact;" + rest);
+        Texts.fine(open + "key m exact; actions f; default f(511, 281474976710655);" + rest);
+        Texts.fine(open + "key m exact, h.a lpm, e.y ternary; actions g, f; default g();" + rest);
+        Texts.fault(ACTS + "table @{");
+        Texts.fault(ACTS + "table t @key");
+        Texts.fault(open + "@actions f;" + rest);
+        Texts.fault(open + "key @; actions f;" + rest);
+        Texts.fault(open + "key @q exact; actions f;" + rest);
+        Texts.fault(open + "key h @exact; actions f;" + rest);
+        Texts.fault(open + "key m @; actions f;" + rest);
+        Texts.fault(open + "key m @size; actions f;" + rest);
+        Texts.fault(open + "key m lpm, h.a @lpm; actions f;" + rest);
+        Texts.fault(open + "key m lpm, h.a exact, h.b @lpm; actions f;" + rest);
+        Texts.fault(open + "key m exact, h.a exact, h.b exact, @h.c exact; actions f;" + rest);
+        Texts.fault(open + "key m exact, @; actions f;" + rest);
+        Texts.fault(open + "key m exact @actions f;" + rest);
+        Texts.fine(open + "key m exact, m exact, m exact; actions g; default g();" + rest);
+        Texts.fault(open + "key m exact; @default g();" + rest);
+        Texts.fault(open + "key m exact; actions @; default g();" + rest);
+        Texts.fault(open + "key m exact; actions @m; default g();" + rest);
+        Texts.fault(open + "key m exact; actions @x; default g();" + rest);
+        Texts.fault(open + "key m exact; actions @t; default g();" + rest);
+        Texts.fault(open + "key m exact; actions f, @f; default g();" + rest);
+        Texts.fault(open + "key m exact; actions f @g; default g();" + rest);
+        Texts.fault(open + "key m exact; actions f; @}" + " control {}");
+        Texts.fault(open + "key m exact; actions f; default @g();" + rest);
+        Texts.fault(open + "key m exact; actions f; default @m();" + rest);
+        Texts.fault(open + "key m exact; actions f; default f@;" + rest);
+        Texts.fault(open + "key m exact; actions f; default f(@);" + rest);
+        Texts.fault(open + "key m exact; actions f; default f(1@);" + rest);
+        Texts.fault(open + "key m exact; actions f; default f(@512, 1);" + rest);
+        Texts.fault(open + "key m exact; actions f; default f(1, @m);" + rest);
+        Texts.fault(open + "key m exact; actions f; default f(1, 2@, 3);" + rest);
+        Texts.fault(open + "key m exact; actions f; default f(1 @2);" + rest);
+        Texts.fault(open + "key m exact; actions g; default g(@1);" + rest);
+        Texts.fault(open + "key m exact; actions g; default g() @}" + " control {}");
+        Texts.fault(open + "key m exact; actions g; default g(); @key m exact;" + rest);
         String five = START + "action a() {} action b() {} action c() {} action d() {} action f() {} ";
-        fine(five + "table t { key m exact; actions a, b, c, d; default d(); } control {}");
-        fault(five + "table t { key m exact; actions a, b, c, d, @f; default d(); } control {}");
-        fault("table t { key @m exact; actions g; default g(); } meta m 9;");
-        fault(START + "table t { key m exact; actions @g; default g(); } action g() {} control {}");
+        Texts.fine(five + "table t { key m exact; actions a, b, c, d; default d(); } control {}");
+        Texts.fault(five + "table t { key m exact; actions a, b, c, d, @f; default d(); } control {}");
+        Texts.fault("table t { key @m exact; actions g; default g(); } meta m 9;");
+        Texts.fault(START + "table t { key m exact; actions @g; default g(); } action g() {} control {}");
     }
 
     private static void names() {
-        fault("header a { x 8; } header @a { x 8; }" + TAIL);
-        fault("header a { x 8; } meta @a 8;" + TAIL);
-        fault("meta a 8; header @a { x 8; }" + TAIL);
-        fault("meta a 8; action @a() {}" + TAIL);
-        fault("action a() {} action @a() {}" + TAIL);
-        fault("meta a 8; action b() {} table @b { key a exact; actions b; default b(); }" + TAIL);
-        fault("meta a 8; action b() {} table @a { key a exact; actions b; default b(); }" + TAIL);
-        fault("meta a 8; action b() {} table t { key a exact; actions b; default b(); } meta @t 8;" + TAIL);
-        fine("header s { s 8; } meta t 8; state s { extract s; goto t; } state t { goto accept; } control {}");
-        fine("meta s 8; action b() {} table t { key s exact; actions b; default b(); }"
+        Texts.fault("header a { x 8; } header @a { x 8; }" + TAIL);
+        Texts.fault("header a { x 8; } meta @a 8;" + TAIL);
+        Texts.fault("meta a 8; header @a { x 8; }" + TAIL);
+        Texts.fault("meta a 8; action @a() {}" + TAIL);
+        Texts.fault("action a() {} action @a() {}" + TAIL);
+        Texts.fault("meta a 8; action b() {} table @b { key a exact; actions b; default b(); }" + TAIL);
+        Texts.fault("meta a 8; action b() {} table @a { key a exact; actions b; default b(); }" + TAIL);
+        Texts.fault("meta a 8; action b() {} table t { key a exact; actions b; default b(); } meta @t 8;" + TAIL);
+        Texts.fine("header s { s 8; } meta t 8; state s { extract s; goto t; } state t { goto accept; } control {}");
+        Texts.fine("meta s 8; action b() {} table t { key s exact; actions b; default b(); }"
             + " state t { goto b; } state b { goto s; } state s { goto accept; } control { apply t; }");
     }
 
@@ -306,10 +295,10 @@ public final class FaultTest {
         badControl("if (1 < 2) {} else @if (1 < 2) {}");
         badControl("if (1 < 2) {} else {} @else {}");
         badControl("if (1 < 2) { @accept; }");
-        fault(START + "control { if (1 < 2) { drop; @");
-        fault(ACTS + "table t { key m exact; actions g; default g(); } control { apply t @}");
-        fault(ACTS + "table t { key m exact; actions g; default g(); } control { apply @g; }");
-        fine(ACTS + "table t { key m exact; actions g; default g(); } control { apply t; apply t; }");
+        Texts.fault(START + "control { if (1 < 2) { drop; @");
+        Texts.fault(ACTS + "table t { key m exact; actions g; default g(); } control { apply t @}");
+        Texts.fault(ACTS + "table t { key m exact; actions g; default g(); } control { apply @g; }");
+        Texts.fine(ACTS + "table t { key m exact; actions g; default g(); } control { apply t; apply t; }");
     }
 
     private static void checksums() {
@@ -322,11 +311,11 @@ public final class FaultTest {
         badControl("checksum h.@a;");
         badControl("checksum e.w @}");
         goodControl("checksum e.w; checksum e.x;");
-        fault("header a { x 16; y 8; } state s { goto accept; } control { checksum a.@x; }");
-        fine("header a { x 16; y 8; z 8; } state s { goto accept; } control { checksum a.x; }");
-        fine("header a { x 5; y 11; z 16; } state s { goto accept; } control { checksum a.z; }");
-        fault("header a { x 8; z 16; y 8; } state s { goto accept; } control { checksum a.@z; }");
-        fault("header a { x 17; y 15; } state s { goto accept; } control { checksum a.@x; }");
+        Texts.fault("header a { x 16; y 8; } state s { goto accept; } control { checksum a.@x; }");
+        Texts.fine("header a { x 16; y 8; z 8; } state s { goto accept; } control { checksum a.x; }");
+        Texts.fine("header a { x 5; y 11; z 16; } state s { goto accept; } control { checksum a.z; }");
+        Texts.fault("header a { x 8; z 16; y 8; } state s { goto accept; } control { checksum a.@z; }");
+        Texts.fault("header a { x 17; y 15; } state s { goto accept; } control { checksum a.@x; }");
     }
 
     private static void sums() {

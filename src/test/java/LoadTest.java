@@ -113,7 +113,7 @@ public final class LoadTest {
 
     private static void manyLoads() {
         PacketSwitch x = new PacketSwitch();
-        for (int i = 1; i <= 60; i++) {
+        for (int i = 1; i <= 40; i++) {
             String text = "state s { goto accept; } control { out = " + i + "; }";
             Expect.same("load " + i, PacketSwitch.NONE, Expect.load(x, text));
             Expect.same("a fault", text.length() - 1, Expect.load(x, text.substring(0, text.length() - 1)));
