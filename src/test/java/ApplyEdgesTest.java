@@ -1,3 +1,5 @@
+import java.math.BigInteger;
+
 /** "Terms", apply and ENTRY: which entries match, and which of them is the one. */
 public final class ApplyEdgesTest {
     private static final long TOP = (1L << 48) - 1;
@@ -11,6 +13,9 @@ public final class ApplyEdgesTest {
         greatestPriority();
         oldest();
         noneMatches();
+        anyOfItsActions();
+        whatActionsSee();
+        whereItGoesOn();
         keysThatAreNotValid();
         manyEntries();
         Expect.finish();
@@ -176,6 +181,58 @@ public final class ApplyEdgesTest {
         x.remove(0);
         finds(x, 0, 1, 0, 500);
         Expect.same("the default was done", 3, x.look(0, 1));
+    }
+
+    private static void anyOfItsActions() {
+        Expect.sentence("of which the default is one; its action with its ARGUMENTS");
+        for (int chosen = 0; chosen < 4; chosen++) {
+            PacketSwitch x = Expect.loaded("header h{a 8;}state s{extract h;goto accept;}action e(){drop;}"
+                + Texts.times(4, "action f#(p 9){out=out+p+#0;}")
+                + "table t{key h.a exact;actions f3,f1,f0,f2;default f" + chosen + "(1);}"
+                + "table u{key h.a exact;actions f2,e,f3;default f3(100);}control{apply t;apply u;}");
+            Expect.goes("the defaults", x, 0, "09", 10 * chosen + 1 + 130, "09");
+            int[] actions = {3, 1, 0, 2};
+            for (int i = 0; i < 4; i++) {
+                x.match(0, i, 0);
+                x.argument(0, i + 2);
+                Expect.same("insert", i, x.insert(0, i, 0));
+                Expect.goes("an entry's", x, 0, "0" + i, 10 * actions[i] + i + 2 + 130, "0" + i);
+            }
+            x.argument(0, 50);
+            Expect.same("fallback", 0, x.fallback(1, 0));
+            Expect.goes("a fallback's", x, 0, "09", 10 * chosen + 1 + 70, "09");
+            Expect.same("fallback", 0, x.fallback(1, 1));
+            Expect.goes("a fallback's", x, 0, "09", PacketSwitch.DROPPED, "");
+        }
+    }
+
+    private static void whatActionsSee() {
+        Expect.sentence("PARAMETERS, which are known in it alone (they are no metas, and neither out, in nor size)");
+        PacketSwitch x = Expect.loaded("header r{p 9;q 9;t 9;i 9;z 9;o 9;m 9;n 9;}" + Texts.times(6, "meta m# 9;")
+            + "state s{goto accept;}action f(p 9,q 9,t 9){r.p=p;r.q=q;r.t=t;r.i=in;r.z=size;r.o=out;r.m=m0;r.n=m5;}"
+            + "table t{key m0 exact;actions f;default f(101,102,103);}"
+            + "control{add r;m0=11;m5=15;out=77;apply t;if(m0!=11||m5!=15||in!=5||size!=3||out!=77||m1+m2+m3+m4!=0){drop;}}");
+        BigInteger bits = BigInteger.ZERO;
+        for (int field : new int[] {101, 102, 103, 5, 3, 77, 11, 15}) {
+            bits = bits.shiftLeft(9).or(BigInteger.valueOf(field));
+        }
+        Expect.goes("each is its own", x, 5, "aabbcc", 77, String.format("%018x", bits) + "aabbcc");
+    }
+
+    private static void whereItGoesOn() {
+        Expect.sentence("apply name ; (what stands behind it is done once, and so is each table's action)");
+        String start = "header h{a 8;}state s{extract h;goto accept;}action f(p 9){out=out+p;}action e(){}"
+            + "table t{key h.a exact;actions f;default f(10);}table u{key h.a exact;actions e;default e();}control{";
+        Expect.goes("behind one", Expect.loaded(start + "out=out+1;apply t;out=out+2;}"), 0, "05", 13, "05");
+        Expect.goes("behind an empty action", Expect.loaded(start + "apply u;out=out+2;}"), 0, "05", 2, "05");
+        Expect.goes("between two", Expect.loaded(start + "apply t;out=out+2;apply t;out=out+3;}"), 0, "05", 25, "05");
+        Expect.goes("in an if", Expect.loaded(start + "if(h.a==5){apply t;out=out+1;}else{apply t;apply t;}out=out+2;}"), 0, "05", 13, "05");
+        Expect.goes("in an else", Expect.loaded(start + "if(h.a!=5){apply t;out=out+1;}else{apply t;apply t;}out=out+2;}"), 0, "05", 22, "05");
+        PacketSwitch x = Expect.loaded(start + "apply t;apply u;apply t;out=out+1;}");
+        Expect.goes("three", x, 0, "05", 21, "05");
+        Expect.same("each once", 2, x.look(0, 1));
+        Expect.same("each once", 1, x.look(1, 1));
+        Expect.goes("forty", Expect.loaded(start + Texts.times(40, "apply t;") + "out=out+1;}"), 0, "05", 401, "05");
     }
 
     private static void keysThatAreNotValid() {

@@ -73,6 +73,10 @@ public final class ControlEdgesTest {
         Expect.goes("not dropped", x, 0, "0102", 9, "0102 0006");
         Expect.same("the second table was applied", 2, x.hits(1));
         Expect.same("dropped is not rejected", 0, x.count(6));
+        x = Expect.loaded("header h{a 8;}header g{c 8;}meta m 8;action n(){}table t{key m exact;actions n;default n();}"
+            + "state s{extract g;goto accept;}control{m=4;drop;if(h.valid||!g.valid||m!=4||out!=0||g.c!=6){apply t;}}");
+        Expect.goes("dropped", x, 0, "06", PacketSwitch.DROPPED, "");
+        Expect.same("it changes nothing else", 0, x.look(0, 1));
     }
 
     private static void checksumOfNone() {

@@ -13,11 +13,15 @@ public final class RandomTest {
         + " ip . ttl = ( ip . ttl - 1 ) & 255 ; } else { apply wall ; add ip ; if ( size <= in + 9 ) { remove eth ; } } }";
     private static final String[] STRANGE = {"$", "_", "A", "abcdefghi", "281474976710656", "0", "49", "==", "<<", "||", "!", "valid", "x"};
 
+    private static final int MOST_CALLS = 512, LOAD_CALLS = 100;
+
+    private static int calls;
+
     public static void main(String[] args) {
         for (int seed = 0; seed < 3000; seed++) {
             faultIsTheFirst(seed);
         }
-        for (int seed = 0; seed < 300; seed++) {
+        for (int seed = 0; seed < 1000; seed++) {
             sameCallsSameAnswers(seed);
         }
         Expect.finish();
@@ -64,7 +68,9 @@ public final class RandomTest {
         PacketSwitch y = new PacketSwitch();
         Random one = new Random(seed);
         Random other = new Random(seed);
-        for (int i = 0; i < 100; i++) {
+        // Two objects share the tally: a load takes more than twenty calls of each.
+        calls = 0;
+        for (int i = 0; i < 100 && calls < 2 * (MOST_CALLS - LOAD_CALLS); i++) {
             Expect.same("call " + i + " of seed " + seed, anyCall(x, one), anyCall(y, other));
         }
     }
@@ -78,7 +84,14 @@ public final class RandomTest {
         return random.nextInt(10) == 0 ? random.nextLong() : anyInt(random);
     }
 
+    private static int load(PacketSwitch x, String text) {
+        calls += LOAD_CALLS;
+        x.end(0);
+        return Expect.load(x, text);
+    }
+
     private static int anyCall(PacketSwitch x, Random random) {
+        calls += 2;
         switch (random.nextInt(16)) {
             case 0:
                 return x.feed(random.nextInt(), random.nextInt(), random.nextInt(), random.nextInt(), random.nextInt());
@@ -87,11 +100,9 @@ public final class RandomTest {
             case 2:
                 return x.end(0) + x.load();
             case 3:
-                x.end(0);
-                return Expect.load(x, PROGRAM);
+                return load(x, PROGRAM);
             case 4:
-                x.end(0);
-                return Expect.load(x, changed(random));
+                return load(x, changed(random));
             case 5:
                 return x.match(anyInt(random), anyLong(random), anyLong(random));
             case 6:

@@ -2,7 +2,8 @@ import java.lang.management.ManagementFactory;
 
 /** All calls of a run share one room: calls use again what the first ones made. */
 public final class RoomTest {
-    // More than an object and what its first two loads make, far less than 512 loads would make.
+    private static final int ROUNDS = 35;
+    // More than an object and what its first two loads make, far less than all loads would make.
     private static final long OBJECT_BYTES = 100_000, ENTRY_BYTES = 300;
     private static final String TEXT = "header h{a 8;}state s{extract h;goto accept;}action f(p 8){h.a=p;}"
         + "table t{key h.a exact;actions f;default f(1);}control{if(h.valid){apply t;}}";
@@ -22,7 +23,7 @@ public final class RoomTest {
         long before = made();
         int answers = loadsAndPackets(words, text.length);
         long bytes = made() - before;
-        Expect.same("all loads and packets were fine", 2 * 60, answers);
+        Expect.same("all loads and packets were fine", 2 * ROUNDS, answers);
         Expect.that("512 calls made " + bytes + " bytes", bytes < OBJECT_BYTES);
         before = made();
         answers = inserts(words, text.length);
@@ -47,7 +48,7 @@ public final class RoomTest {
     private static int loadsAndPackets(int[] words, int length) {
         PacketSwitch x = new PacketSwitch();
         int fine = 0;
-        for (int i = 0; i < 60; i++) {
+        for (int i = 0; i < ROUNDS; i++) {
             fine += load(x, words, length) == PacketSwitch.NONE ? 1 : 0;
             x.feed(0x02000000, 0, 0, 0, 0);
             fine += x.packet(0) == 0 && x.octet(0) == 1 ? 1 : 0;
