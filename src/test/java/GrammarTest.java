@@ -3,8 +3,9 @@ import java.util.HashSet;
 import java.util.Set;
 
 /**
- * "Terms", PROGRAM: at each place of each of its forms every token is tried. What can stand there leaves
- * a text to which only something is missing, so that its fault is its end; all else is the fault itself.
+ * "Terms", PROGRAM: at the places of its forms all words and signs are tried, and names and numbers of
+ * each sort. What can stand there leaves a text to which only something is missing, so that its fault is
+ * its end; all else is the fault itself.
  */
 public final class GrammarTest {
     private static final String WORDS = "header meta state extract goto select default accept reject action table key"
@@ -268,6 +269,7 @@ public final class GrammarTest {
         behind(table + " actions", "f g");
         behind(table + " actions f", ", ;");
         behind(table + " actions f ,", "g");
+        behind(table + " actions f , g", ", ;");
         behind(table + " actions f , g ,", "");
         behind(table + " actions f ;", "default");
         behind(table + " actions f ; default", "f");
